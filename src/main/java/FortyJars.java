@@ -571,20 +571,20 @@ public final class FortyJars {
             at = 0;
             couldHear = 0;
             for (int place = 0; place < n && place < steps.length && firstWrong == NONE; place++) {
-                step(yard, steps[place], place);
+                int step = steps[place];
+                if (step >= Yard.FIRST_OIL) fill(yard, step - Yard.FIRST_OIL);
+                else if (left > 0 && stands(step)) pour(yard, step, place);
+                else firstWrong = place;
             }
         }
 
-        private void step(Yard yard, int step, int place) {
-            if (step >= Yard.FIRST_OIL) {
-                walkTo(yard, yard.oilCell[step - Yard.FIRST_OIL]);
-                left = yard.canHolds;
-            } else if ((dealt >> step & 1) != 0 || left == 0) {
-                firstWrong = place;
-            } else {
-                walkTo(yard, yard.manCell[step]);
-                pour(yard, step, place);
-            }
+        private boolean stands(int m) {
+            return (dealt >> m & 1) == 0;
+        }
+
+        private void fill(Yard yard, int oil) {
+            walkTo(yard, yard.oilCell[oil]);
+            left = yard.canHolds;
         }
 
         private void walkTo(Yard yard, int c) {
@@ -594,6 +594,7 @@ public final class FortyJars {
 
         /** Who is poured on counts as dealt with ahead of the hearing, as he himself does not matter. */
         private void pour(Yard yard, int m, int place) {
+            walkTo(yard, yard.manCell[m]);
             left--;
             dealt |= 1 << m;
             int hearers = yard.hearersAt(at) & ~dealt;

@@ -77,6 +77,9 @@ public final class YardTest {
             check.due("oil", x.many(2), 1);
         }
         FortyJars x = new FortyJars();
+        Jars.write(x, 3, 2, " ".repeat(54) + "y12;.o");
+        check.due("the end of the last sheet", x.yard(3, 2, 54, 6), 0);
+        check.due("none, behind its end", x.yard(3, 2, 60, 0), -100);
         check.due("smallest", Jars.take(x, "y12;.."), 0);
         check.due("cells", x.many(0), 2);
         check.due("widest", Jars.take(x, "y16;......"), 0);
@@ -100,6 +103,12 @@ public final class YardTest {
         String whole = "y23;m0.o;w5c3.";
         for (int n = 0; n < whole.length(); n++) fault(whole.substring(0, n), n);
         for (String end : new String[] {".", ";", "o", "m", "y", "0"}) fault(whole + end, whole.length());
+        FortyJars same = new FortyJars();
+        Jars.write(same, 0, 0, whole);
+        for (int n = 0; n < whole.length(); n++) {
+            check.due("whole", same.yard(0, 0, 0, whole.length()), 3);
+            check.due("what was taken before is no part of it", same.yard(0, 0, 0, n), -100 - n);
+        }
         fault("x23;m0.o;w5c3.", 0);
         fault("Y23;m0.o;w5c3.", 0);
         fault("y03;m0.o;w5c3.", 1);
@@ -200,6 +209,12 @@ public final class YardTest {
         check.due("inside", x.inside(1), 0);
         check.due("inside", x.inside(2), Jars.UNKNOWN);
         check.due("OIL", x.many(2), 0);
+        for (int k = 0; k < 3; k++) {
+            check.due("men", Jars.take(x, "y12;w0w0"), 2);
+            check.due("sleeps", x.ofMan(0, 4) + x.ofMan(1, 4), 0);
+            x.doze(0, true);
+            x.doze(1, true);
+        }
     }
 
     private static void inside() {
