@@ -701,6 +701,7 @@ public final class FortyJars {
 
         private void pourOn(Yard yard, int set, int m) {
             for (int last = 0; last < LASTS; last++) {
+                if (!canBeLast(set, last)) continue;
                 int from = last == START ? 0 : yard.manCell[last];
                 int straight = yard.apart(from, yard.manCell[m]) + 1;
                 int byOil = minutesByOil(yard, from, yard.manCell[m]);
@@ -711,6 +712,10 @@ public final class FortyJars {
                     if (byOil != NEVER) offer(set | 1 << m, m, yard.canHolds - 1, minutes + byOil);
                 }
             }
+        }
+
+        private static boolean canBeLast(int set, int last) {
+            return last == START ? set == 0 : (set >> last & 1) != 0;
         }
 
         private static int minutesByOil(Yard yard, int from, int to) {
