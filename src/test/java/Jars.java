@@ -20,11 +20,6 @@ final class Jars {
         write(x, k, lane, text.chars().toArray());
     }
 
-    /** As a number for a call that is far off: each lies beyond all that any call takes, and wraps around soon. */
-    static int[] farOff() {
-        return new int[] {Integer.MIN_VALUE, Integer.MAX_VALUE};
-    }
-
     static int take(FortyJars x, String text) {
         write(x, SHEET, 0, text);
         return x.yard(SHEET, 0, 0, text.length());
