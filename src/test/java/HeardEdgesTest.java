@@ -16,6 +16,7 @@ public final class HeardEdgesTest {
         kindSets();
         kindsByEar();
         othersReadings();
+        othersAsleep();
         oddsEdges();
         oddsInPlace();
         oddsCells();
@@ -263,6 +264,28 @@ public final class HeardEdgesTest {
         check.due("hearing(0)", x.hearing(0), 56);
         check.due("hearing(1)", x.hearing(1), 0);
         check.due("kinds(1)", x.kinds(1), 0);
+    }
+
+    private static void othersAsleep() {
+        check.part("promises 18, 19, 20: whoever of them sleeps, other men's readings are of men awake");
+        FortyJars x = Jars.of("y16;m1....m1");
+        for (int sleepers = 0; sleepers < 4; sleepers++) {
+            for (int m = 0; m < 2; m++) x.doze(m, (sleepers >> m & 1) != 0);
+            x.reading(0, 2, true);
+            x.reading(1, 3, false);
+            check.due("man 0 does not hear so far", x.holds(), 0);
+            check.due("hearing(0)", x.hearing(0), 60);
+            check.due("kinds(0)", x.kinds(0), 6);
+            check.due("hearing(1)", x.hearing(1), 0);
+            check.due("kinds(1)", x.kinds(1), 0);
+            x.back(2);
+            x.reading(0, 1, true);
+            x.reading(1, 5, true);
+            check.due("both are so", x.holds(), 1);
+            check.due("hearing(0)", x.hearing(0), 62);
+            check.due("kinds(1)", x.kinds(1), 7);
+            x.back(2);
+        }
     }
 
     // ---- promise 21

@@ -32,6 +32,12 @@ final class Jars {
         return x;
     }
 
+    static int take(Model y, String text) {
+        y.sheet(SHEET, 0, text.length());
+        for (int i = 0; i < text.length(); i++) y.put(SHEET, i, text.charAt(i));
+        return y.yard(SHEET, 0, 0, text.length());
+    }
+
     static int plan(FortyJars x, int what, int... steps) {
         write(x, SHEET, 2, steps);
         return x.plan(SHEET, 2, 0, steps.length, what);

@@ -26,6 +26,9 @@ public final class PlanEdgesTest {
         soonestEdges();
         soonestByOil();
         soonestUnheard();
+        soonestForced();
+        soonestOfSix();
+        soonestOrders();
         signEdges();
         severalSets();
         withoutEdges();
@@ -378,6 +381,42 @@ public final class PlanEdgesTest {
         x.doze(0, false);
         x.can(2);
         check.due("the other one sleeps", x.soonest(), 1 + 2 + 2);
+    }
+
+    private static void soonestForced() {
+        check.part("promise 13: an order that ears force, from a near man to the farthest and back");
+        int[] want = {28, 25, 24, 24, 24, 24};
+        FortyJars x = Jars.of("y46;w5.....;......;....oc3;...m0..");
+        for (int k = 0; k < 3; k++) check.due("the order", x.quiet(k), new int[] {1, 0, 2}[k]);
+        for (int can = 1; can <= 6; can++) {
+            x.can(can);
+            check.due("can " + can, x.soonest(), want[can - 1]);
+            check.due("without the first", x.without(1), can == 1 ? 7 + 7 + 7 + 3 : 7 + 7 + 7);
+            check.due("without the far one", x.without(0), can == 1 ? 7 + 2 + 2 + 3 : 7 + 2 + 4);
+            check.due("without the last", x.without(2), can == 1 ? 7 + 2 + 2 + 7 : 7 + 2 + 8);
+        }
+    }
+
+    private static void soonestOfSix() {
+        check.part("promise 13: six men by each can: 6 pours of one filling, 5 and 1, 4 and 2, ..");
+        byEachCan("y26;om0m0m0m0m0;m0.....", 39, 24, 19, 17, 15, 14);
+        byEachCan("y46;m0....m0;..m0...;...m0..;m0.o..m0", 51, 36, 31, 31, 31, 28);
+    }
+
+    private static void soonestOrders() {
+        check.part("promise 13: the soonest is not by the first order, nor by the last, nor by the nearest one first");
+        byEachCan("y15;m0..om0", 12, 11, 11, 11, 11, 11);
+        byEachCan("y15;.m0o.m0", 10, 9, 9, 9, 9, 9);
+        byEachCan("y15;m0m0om0.", 14, 11, 10, 10, 10, 10);
+        byEachCan("y15;.m0om0m0", 14, 11, 10, 10, 10, 10);
+    }
+
+    private static void byEachCan(String text, int... want) {
+        FortyJars x = Jars.of(text);
+        for (int can = 1; can <= 6; can++) {
+            x.can(can);
+            check.due("can " + can + " of " + text, x.soonest(), want[can - 1]);
+        }
     }
 
     private static void signEdges() {
